@@ -27,6 +27,7 @@ public final class LevelsTest {
         promise11Vanishing();
         promise11VanishingOfStrings();
         promise12Were();
+        toldByTheLawAsItIs();
         due.end("LevelsTest");
     }
 
@@ -496,5 +497,35 @@ public final class LevelsTest {
         due.same("12: turned, one alone", x.were(1, 1, -1), 1);
         x.set(1, 0);
         due.same("12: by the CHARGE as it is", x.were(5, x.determinant(5), -1) > 0 ? 1 : 0, 1);
+    }
+
+    /** Each number of the LAW changed alone, and all at once, between the same questions. */
+    private static void toldByTheLawAsItIs() {
+        int[][] laws = {
+            {1, 26, 7, 5}, {2, 26, 7, 5}, {2, 31, 7, 5}, {2, 31, 8, 5}, {2, 31, 8, 6}, {1, 26, 7, 5}, {3, 9, 40, 11},
+            {4, 9, 40, 11}, {4, 9, 40, 12}, {0, 0, 0, 1}, {0, 0, 50, 1}, {2, 99, 98, 97}, {1, 98, 97, 96},
+        };
+        for (int level = 0; level <= 5; level++) {
+            LevelLadders x = new LevelLadders();
+            for (int[] law : laws) {
+                for (int what = 0; what < 4; what++) {
+                    x.set(what, law[what]);
+                }
+                sameByBoth(x, Due.withLaw(law[0], law[1], law[2], law[3]), level);
+            }
+        }
+    }
+
+    private static void sameByBoth(LevelLadders x, LevelLadders y, int level) {
+        String call = "8 to 12, by the LAW as it is, LEVEL " + level;
+        int v = x.determinant(level);
+        due.same(call, v, y.determinant(level));
+        due.same(call, x.were(level, v, -1), y.were(level, v, -1));
+        due.same(call, x.were(level, v, 0), y.were(level, v, 0));
+        due.same(call, x.zeros(level, 0), y.zeros(level, 0));
+        due.same(call, x.rank(level), y.rank(level));
+        due.same(call, x.vanishing(level, -1), y.vanishing(level, -1));
+        due.same(call, x.act(0, level, 0, 0), y.act(0, level, 0, 0));
+        due.same(call, x.form(level, 0, 0), y.form(level, 0, 0));
     }
 }

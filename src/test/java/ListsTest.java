@@ -62,6 +62,18 @@ public final class ListsTest {
         due.same("28: NOTHING", x.judge(0, 0), -11);
         due.same("28: NOTHING in 2", x.judge(2, 0), -11);
         due.same("28: held", x.judge(1, 0), -5);
+        x = new LevelLadders();
+        for (int i = 0; i < 4; i++) {
+            x.become(i, 1, 0);
+            x.put(i, 0, 10 + i);
+            x.list(i, 1);
+            x.lay(i, 0, 10 + i);
+        }
+        for (int list = 0; list < 4; list++) {
+            for (int vector = 0; vector < 4; vector++) {
+                due.same("28: list " + list + ", vector " + vector, x.judge(list, vector), list == vector ? -5 : 0);
+            }
+        }
     }
 
     private static void promise29List() {
@@ -185,6 +197,8 @@ public final class ListsTest {
         due.same("32: image()", x.image(), 2);
         isAsFilled(x, "32");
         change(x);
+        due.same("32: FORM by the other LAW", x.form(1, 0, 0), 16);
+        due.same("32: ZEROS by the other LAW", x.zeros(1, -1), 0);
         due.same("32: undo()", x.undo(), 2);
         isAsFilled(x, "32 undone");
         change(x);
