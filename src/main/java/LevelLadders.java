@@ -62,7 +62,8 @@ public final class LevelLadders {
         if (!isMode(m) || !isMode(n)) {
             return BAD;
         }
-        return what == 0 ? ladder.slopeOf(now.law, m, n) : ladder.centreOf(now.law, m);
+        Free kind = ladder.kindOf(now.law);
+        return modulo(what == 0 ? kind.slope(m, n) : kind.centre(m, now.law[CHARGE], now.law[FIGURE]));
     }
 
     // ---- levels
@@ -102,11 +103,19 @@ public final class LevelLadders {
     }
 
     public int determinant(int level) {
-        return isLevel(level) ? ladder.reducedForms(now.law, level).product : NONE;
+        if (!isLevel(level)) {
+            return NONE;
+        }
+        ladder.build(now.law, level);
+        return ladder.reducedForms(level).product;
     }
 
     public int rank(int level) {
-        return isLevel(level) ? ladder.reducedForms(now.law, level).found : NONE;
+        if (!isLevel(level)) {
+            return NONE;
+        }
+        ladder.build(now.law, level);
+        return ladder.reducedForms(level).found;
     }
 
     public int zeros(int level, int i) {
@@ -117,7 +126,8 @@ public final class LevelLadders {
         if (!isLevel(level)) {
             return NONE;
         }
-        Grid grid = ladder.reducedLowerings(now.law, level);
+        ladder.build(now.law, level);
+        Grid grid = ladder.reducedLowerings(level);
         int free = grid.columns - grid.found;
         if (i == -1) {
             return free;
@@ -152,6 +162,7 @@ public final class LevelLadders {
         if (!isVector(vector)) {
             return NONE;
         }
+        ladder.build(now.law, TOP);
         int fault = tape.fault();
         int answer = fault < 0 ? sumOfTerms() : -100 - fault;
         if (answer >= 0) {
@@ -195,10 +206,12 @@ public final class LevelLadders {
             return NONE;
         }
         Vector its = now.vectors[vector];
-        if (!isLevel(its.height - m)) {
+        int to = its.height - m;
+        if (!isLevel(to)) {
             return STATE;
         }
-        ladder.move(now.law, its, m);
+        ladder.build(now.law, Math.max(its.height, to));
+        ladder.move(its, m);
         return its.height;
     }
 
@@ -225,7 +238,8 @@ public final class LevelLadders {
         if (its.height != now.vectors[other].height) {
             return 0;
         }
-        return ladder.productOf(now.law, its, now.vectors[other]);
+        ladder.build(now.law, its.height);
+        return ladder.productOf(its, now.vectors[other]);
     }
 
     public int isLowest(int vector) {
@@ -233,9 +247,10 @@ public final class LevelLadders {
             return NONE;
         }
         Vector its = now.vectors[vector];
+        ladder.build(now.law, its.height);
         for (int m = 1; m <= its.height; m++) {
             thought.copyFrom(its);
-            ladder.move(now.law, thought, m);
+            ladder.move(thought, m);
             if (!thought.isZero()) {
                 return 0;
             }
@@ -284,6 +299,7 @@ public final class LevelLadders {
         if (!isVector(vector)) {
             return NONE;
         }
+        ladder.build(now.law, TOP);
         thought.copyFrom(now.vectors[vector]);
         for (int r = 0; r < now.rows; r++) {
             doRow(now.rowWhats[r], now.rowNumbers[r]);
@@ -482,7 +498,7 @@ public final class LevelLadders {
             if (!isLevel(thought.height - mode)) {
                 return;
             }
-            ladder.move(now.law, thought, mode);
+            ladder.move(thought, mode);
         }
         sum.addTimes(thought, tape.number);
     }
@@ -498,7 +514,7 @@ public final class LevelLadders {
                 return true;
             }
             if (to <= TOP) {
-                ladder.move(now.law, thought, mode);
+                ladder.move(thought, mode);
             }
         }
         return thought.isZero();
@@ -510,7 +526,7 @@ public final class LevelLadders {
             if (to < 0) {
                 thought.becomeZero(0);
             } else if (to <= TOP) {
-                ladder.move(now.law, thought, v);
+                ladder.move(thought, v);
             }
         } else if (what == 1) {
             thought.multiply(v);
@@ -519,9 +535,10 @@ public final class LevelLadders {
         }
     }
 
+    // What the kinds answer is not yet taken MODULO: who asks them does that.
     private static class Free {
         int slope(int m, int n) {
-            return modulo(m - n);
+            return m - n;
         }
 
         int centre(int m, int charge, int figure) {
@@ -531,17 +548,17 @@ public final class LevelLadders {
 
     private static class Charged extends Free {
         int centre(int m, int charge, int figure) {
-            return modulo(charge * (m * m * m - m) * 59);
+            return charge * (m * m * m - m) * 59;
         }
     }
 
     private static final class Turned extends Charged {
         int slope(int m, int n) {
-            return modulo(-super.slope(m, n));
+            return -super.slope(m, n);
         }
 
         int centre(int m, int charge, int figure) {
-            return modulo(figure * m + super.centre(m, charge, figure));
+            return figure * m + super.centre(m, charge, figure);
         }
     }
 
@@ -551,13 +568,13 @@ public final class LevelLadders {
         }
 
         int centre(int m, int charge, int figure) {
-            return modulo(figure * m);
+            return figure * m;
         }
     }
 
     private static final class Twice extends Strings {
         int centre(int m, int charge, int figure) {
-            return modulo(2 * super.centre(m, charge, figure));
+            return 2 * super.centre(m, charge, figure);
         }
     }
 
@@ -648,12 +665,8 @@ public final class LevelLadders {
         private final int[] moved = new int[WIDEST];
         private final Grid grid = new Grid();
 
-        int slopeOf(int[] law, int m, int n) {
-            return kinds[law[KIND]].slope(m, n);
-        }
-
-        int centreOf(int[] law, int m) {
-            return kinds[law[KIND]].centre(m, law[CHARGE], law[FIGURE]);
+        Free kindOf(int[] law) {
+            return kinds[law[KIND]];
         }
 
         int made(int from, int to) {
@@ -708,12 +721,14 @@ public final class LevelLadders {
                 return;
             }
             int rest = REST[from];
-            int slope = slopeOf(built, m, -k);
+            Free kind = kindOf(built);
+            int slope = kind.slope(m, -k);
             for (int to = START[t]; to < START[t + 1]; to++) {
-                acts[row + to] = (exchanged(rest, t - k, to) + slope * made(rest, to)) % MODULUS;
+                acts[row + to] = modulo(exchanged(rest, t - k, to) + slope * made(rest, to));
             }
             if (m == k) {
-                acts[row + rest] = (acts[row + rest] + centreOf(built, m)) % MODULUS;
+                int centre = kind.centre(m, built[CHARGE], built[FIGURE]);
+                acts[row + rest] = modulo(acts[row + rest] + centre);
             }
         }
 
@@ -756,11 +771,10 @@ public final class LevelLadders {
             }
         }
 
-        /** Does L(m) to a vector that stays within the LEVELS. */
-        void move(int[] law, Vector vector, int m) {
+        /** Does L(m) to a vector that stays within the LEVELS of the tables. */
+        void move(Vector vector, int m) {
             int from = vector.height;
             int to = from - m;
-            build(law, Math.max(from, to));
             for (int j = START[to]; j < START[to + 1]; j++) {
                 int all = 0;
                 for (int i = START[from]; i < START[from + 1]; i++) {
@@ -772,10 +786,9 @@ public final class LevelLadders {
             System.arraycopy(moved, 0, vector.numbers, 0, START[to + 1] - START[to]);
         }
 
-        int productOf(int[] law, Vector one, Vector other) {
+        int productOf(Vector one, Vector other) {
             int start = START[one.height];
             int end = START[one.height + 1];
-            build(law, one.height);
             int all = 0;
             for (int i = start; i < end; i++) {
                 for (int j = start; j < end; j++) {
@@ -785,10 +798,9 @@ public final class LevelLadders {
             return all % MODULUS;
         }
 
-        Grid reducedForms(int[] law, int level) {
+        Grid reducedForms(int level) {
             int start = START[level];
             int size = START[level + 1] - start;
-            build(law, level);
             grid.resize(size, size);
             for (int i = 0; i < size; i++) {
                 for (int j = 0; j < size; j++) {
@@ -800,10 +812,9 @@ public final class LevelLadders {
         }
 
         /** All that L(1) .. L(5) make of a LEVEL: a row for each BASIS VECTOR of the LEVELS below. */
-        Grid reducedLowerings(int[] law, int level) {
+        Grid reducedLowerings(int level) {
             int start = START[level];
             int size = START[level + 1] - start;
-            build(law, level);
             grid.resize(start, size);
             for (int i = 0; i < start; i++) {
                 for (int j = 0; j < size; j++) {
@@ -944,7 +955,8 @@ public final class LevelLadders {
             int degree = DEGREE[level];
             for (int h = 0; h <= degree; h++) {
                 trial[WEIGHT] = h;
-                edge[h] = ladder.reducedForms(trial, level).product;
+                ladder.build(trial, level);
+                edge[h] = ladder.reducedForms(level).product;
                 values[level * MODULUS + h] = edge[h];
             }
             extend(level, degree);
