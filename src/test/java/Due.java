@@ -27,6 +27,17 @@ final class Due {
         }
     }
 
+    void each(String call, int[] numbers, long want, Twins.Number f) {
+        for (int number : numbers) {
+            same(call + " by " + number, f.of(number), want);
+        }
+    }
+
+    /** The numbers next to those that are allowed, and the least and the greatest int. */
+    static int[] beside(int least, int most) {
+        return new int[] {Integer.MIN_VALUE, least - 1, most + 1, Integer.MAX_VALUE};
+    }
+
     static LevelLadders withLaw(int kind, int charge, int weight, int figure) {
         LevelLadders x = new LevelLadders();
         x.set(0, kind);
