@@ -83,4 +83,12 @@ final class Due {
     static int mod(long x) {
         return (int) Math.floorMod(x, 101L);
     }
+
+    static long power(long base, int often) {
+        long all = 1;
+        for (int i = 0; i < often; i++) {
+            all = all * mod(base) % 101;
+        }
+        return all;
+    }
 }

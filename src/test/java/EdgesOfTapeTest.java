@@ -92,21 +92,13 @@ public final class EdgesOfTapeTest {
     }
 
     private static void promise14SixtyBytes() {
-        told(ALMOST, 0, power(7, 29));
-        told("9" + ALMOST, 0, 9 * power(7, 29) % 101);
+        told(ALMOST, 0, Due.power(7, 29));
+        told("9" + ALMOST, 0, 9 * Due.power(7, 29) % 101);
         due.same("14: these are sixty", ALMOST.length() + 1, 60);
         fault("9" + ALMOST.substring(0, 58) + "x", 59);
         fault("9" + ALMOST.substring(0, 58) + "-", 59);
         fault("x" + ALMOST, 0);
         state("9[1" + ALMOST.substring(2));
-    }
-
-    private static long power(long base, int often) {
-        long all = 1;
-        for (int i = 0; i < often; i++) {
-            all = all * base % 101;
-        }
-        return all;
     }
 
     private static void promise14TooEarly() {

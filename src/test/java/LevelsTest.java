@@ -251,9 +251,9 @@ public final class LevelsTest {
             for (int s = 1; r * s <= level; s++) {
                 int left = PARTITIONS[level - r * s].length;
                 int next = r * s + r <= level ? PARTITIONS[level - r * s - r].length : 0;
-                all = all * power(power(2L * r, s) * factorial(s), left - next) % 101;
+                all = all * Due.power(Due.power(2L * r, s) * factorial(s), left - next) % 101;
                 if (r <= s) {
-                    all = all * power(factor(r, s, c, h), left) % 101;
+                    all = all * Due.power(factor(r, s, c, h), left) % 101;
                 }
             }
         }
@@ -272,14 +272,6 @@ public final class LevelsTest {
         return Due.mod(one * other + gap * inverse(16));
     }
 
-    private static long power(long base, int often) {
-        long all = 1;
-        for (int i = 0; i < often; i++) {
-            all = all * Due.mod(base) % 101;
-        }
-        return all;
-    }
-
     private static long factorial(int s) {
         long all = 1;
         for (int i = 2; i <= s; i++) {
@@ -289,7 +281,7 @@ public final class LevelsTest {
     }
 
     private static long inverse(long x) {
-        return power(x, 99);
+        return Due.power(x, 99);
     }
 
     private static void promise8Determinant() {

@@ -71,17 +71,9 @@ public final class VectorsTest {
         told(x, "[-1 1]", 0, 0);
         told(x, "[-3 2 -1]", 2, 0, 0);
         told(x, "[-2 2]+4[]", 0, 4);
-        told(x, "[0 0 0 0 0 0 0 0 0 0 0 0 0 0 0 0 0 0 0 0 0 0 0 0 0 0 0 0 0]", 0, power(7, 29));
-        told(x, "[1 -1 1 -1 1 -1 1 -1 1 -1 1 -1 1 -1 1 -1 1 -1 1 -1 0 0 0]", 0, power(14, 10) * power(7, 3) % 101);
+        told(x, "[0 0 0 0 0 0 0 0 0 0 0 0 0 0 0 0 0 0 0 0 0 0 0 0 0 0 0 0 0]", 0, Due.power(7, 29));
+        told(x, "[1 -1 1 -1 1 -1 1 -1 1 -1 1 -1 1 -1 1 -1 1 -1 1 -1 0 0 0]", 0, Due.power(14, 10) * Due.power(7, 3) % 101);
         told(x, "99[-1]+2[-1]", 1, 0);
-    }
-
-    private static long power(long base, int often) {
-        long all = 1;
-        for (int i = 0; i < often; i++) {
-            all = all * base % 101;
-        }
-        return all;
     }
 
     private static void promise14ReadByLaw() {
