@@ -24,6 +24,7 @@ public final class RefusedTest {
         promises10To12();
         promise13Feed();
         promise14Read();
+        promise14ReadBehindFaultAndState();
         promise15Become();
         promises16And17();
         promise18Put();
@@ -175,6 +176,22 @@ public final class RefusedTest {
         for (int vector : NO_VECTOR) {
             stays("14: read(" + vector + "), THE TAPE stays", -1, x -> x.read(vector));
         }
+    }
+
+    /** The one with something has 5[-1 0] on THE TAPE: each text goes on behind that. */
+    private static void promise14ReadBehindFaultAndState() {
+        String[] texts = {"x", "+", "+[", "+[-", "+[-0]", "+[-1 ]", "+0[]", "+123[]", "+[]", "+[1]", "+[-1]+[-2]",
+            "+[5 -1 -5]", "+[-3 -3]", "+[5 -5 -5]", "+[-2 1]+[-2]"};
+        int[] wants = {-107, -108, -109, -110, -110, -112, -108, -110, -3, -3, -3, -3, -3, -3, -3};
+        for (int i = 0; i < texts.length; i++) {
+            for (int vector = 0; vector <= 3; vector++) {
+                int its = vector;
+                String text = texts[i];
+                String call = "14: read(" + its + ") of 5[-1 0]" + text;
+                Twins.stays(due, Twins.SOME, call, wants[i], x -> Due.read(x, its, text), "FED", "TAPE");
+            }
+        }
+        Twins.stays(due, Twins.NEW, "14: read(0) of no byte", -100, x -> x.read(0));
     }
 
     private static void promise15Become() {

@@ -163,10 +163,11 @@ final class Twins {
         }
     }
 
-    static void stays(Due due, int room, String call, long want, Call c) {
+    /** The same by one object, but for what the names begin. */
+    static void stays(Due due, int room, String call, long want, Call c, String... names) {
         LevelLadders x = made(room);
         due.same(call + " of " + NAMES[room], c.on(x), want);
-        compare(due, room, call, x);
+        compare(due, room, call, x, names);
     }
 
     /** By any object: nothing has changed behind the call, whatever it answers, but what the names begin. */
