@@ -22,6 +22,7 @@ public final class EdgesOfDrawsTest {
         promise25AboveLevelFiveIsLeftOut();
         promise25BelowLevelNoughtIsNought();
         promise25Times();
+        promise25AllCoordinates();
         promise25VectorsAreAddedAsInTruth();
         promise25Places();
         promise26Nothing();
@@ -304,6 +305,40 @@ public final class EdgesOfDrawsTest {
         behindIs(x, 0, 2, 0, 0);
         x.plan(0, -1);
         behindIs(x, 0, 3, 0, 0, 0);
+    }
+
+    /** Each kind of ROW goes to all COORDINATES of each LEVEL, the last too. */
+    private static void promise25AllCoordinates() {
+        for (int level = 0; level <= 5; level++) {
+            int size = Due.sizeOf(level);
+            long[] times = new long[size];
+            long[] added = new long[size];
+            long[] done = new long[size];
+            LevelLadders x = Due.withLaw(3, 0, 60, 1);
+            x.become(1, level, 0);
+            x.become(2, level, 0);
+            for (int i = 0; i < size; i++) {
+                x.put(1, i, 10 + i);
+                x.put(2, i, 100 - i);
+                times[i] = (10 + i) * 7;
+                added[i] = times[i] - 1 - i;
+                done[i] = added[i] * 60;
+            }
+            x.plan(1, 7);
+            behindIs(x, 1, level, modulo(times));
+            x.plan(2, 2);
+            behindIs(x, 1, level, modulo(added));
+            x.plan(0, 0);
+            behindIs(x, 1, level, modulo(done));
+        }
+    }
+
+    private static long[] modulo(long[] numbers) {
+        long[] all = new long[numbers.length];
+        for (int i = 0; i < all.length; i++) {
+            all[i] = Due.mod(numbers[i]);
+        }
+        return all;
     }
 
     private static void promise25VectorsAreAddedAsInTruth() {

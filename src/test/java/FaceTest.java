@@ -5,7 +5,9 @@ import java.lang.reflect.Method;
 import java.lang.reflect.Modifier;
 import java.nio.file.Files;
 import java.nio.file.Path;
+import java.util.ArrayList;
 import java.util.List;
+import java.util.Map;
 import java.util.Set;
 import java.util.TreeSet;
 
@@ -31,6 +33,7 @@ public final class FaceTest {
         methods();
         constants();
         members();
+        inTheDocumentsOrder();
         words();
         due.end("FaceTest");
     }
@@ -69,6 +72,12 @@ public final class FaceTest {
         due.same("FULL", LevelLadders.FULL, -4);
         due.same("NOT", LevelLadders.NOT, -5);
         due.same("NO", LevelLadders.NO, Long.MIN_VALUE);
+        for (Field field : LevelLadders.class.getFields()) {
+            int modifiers = field.getModifiers();
+            Class<?> type = field.getName().equals("NO") ? long.class : int.class;
+            same("public static final " + field, modifiers == (Modifier.PUBLIC | Modifier.STATIC | Modifier.FINAL));
+            same("type of " + field, field.getType() == type);
+        }
     }
 
     private static void members() {
@@ -82,18 +91,45 @@ public final class FaceTest {
         Constructor<?>[] constructors = LevelLadders.class.getDeclaredConstructors();
         due.same("constructors", constructors.length, 1);
         same("public constructor", Modifier.isPublic(constructors[0].getModifiers()));
+        same("constructor " + constructors[0], constructors[0].toString().equals("public LevelLadders()"));
         int modifiers = LevelLadders.class.getModifiers();
-        same("public and final", Modifier.isPublic(modifiers) && Modifier.isFinal(modifiers));
+        same("public and final", modifiers == (Modifier.PUBLIC | Modifier.FINAL));
+        same("of no other class", LevelLadders.class.getSuperclass() == Object.class);
+        same("of no interface", LevelLadders.class.getInterfaces().length == 0);
         Class<?>[] insides = LevelLadders.class.getDeclaredClasses();
         same("classes", insides.length <= 12);
         for (Class<?> inside : insides) {
             same("static " + inside, Modifier.isStatic(inside.getModifiers()));
+            same("not for all " + inside, (inside.getModifiers() & (Modifier.PUBLIC | Modifier.PROTECTED)) == 0);
             same("fields of " + inside, inside.getDeclaredFields().length <= 20);
         }
     }
 
+    /** The file tells the methods in the document's order, with its headings ahead of the calls that it names. */
+    private static void inTheDocumentsOrder() throws IOException {
+        Map<String, String> headings = Map.of("set", "the law", "partition", "levels", "feed", "vectors", "odds",
+            "draws, plans, written", "judge", "lists, the image");
+        List<String> told = new ArrayList<>();
+        for (String line : Files.readAllLines(Path.of(Source.FILE))) {
+            if (line.matches("    // ---- .*")) {
+                told.add(line.trim());
+            } else if (line.matches("    public (int|long) \\w+\\(.*")) {
+                told.add(line.replaceAll(".* (\\w+)\\(.*", "$1"));
+            }
+        }
+        List<String> wants = new ArrayList<>();
+        for (String method : FACE) {
+            String name = method.replaceAll(".* (\\w+)\\(.*", "$1");
+            if (headings.containsKey(name)) {
+                wants.add("// ---- " + headings.get(name));
+            }
+            wants.add(name);
+        }
+        same("in the document's order: " + told, told.equals(wants));
+    }
+
     private static void words() throws IOException {
-        for (String line : Files.readAllLines(Path.of("src/main/java/LevelLadders.java"))) {
+        for (String line : Files.readAllLines(Path.of(Source.FILE))) {
             String code = line.replaceAll("//.*|^ */?\\*.*", "");
             for (String word : NOT_ALLOWED) {
                 same(word + " in: " + line, !code.contains(word));
