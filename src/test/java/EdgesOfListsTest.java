@@ -22,6 +22,8 @@ public final class EdgesOfListsTest {
         promise32NoImage();
         promise32Again();
         promise32OfEachThing();
+        promise32OfEachRow();
+        promise32OfEachCoordinate();
         promise34Counts();
         promise34OfAllVectors();
         promise34Whats();
@@ -264,6 +266,54 @@ public final class EdgesOfListsTest {
         due.same("33: the last", x.coordinate(3, 6), 100);
         due.same("33: eight ROWS", x.count(3), 8);
         due.same("33: BEHIND eight", x.behind(2, 6), Due.mod(-1 - 8));
+    }
+
+    /** Each ROW is kept, the eighth too, though others come into its place, and though there are fewer then. */
+    private static void promise32OfEachRow() {
+        for (int rows = 0; rows <= 8; rows++) {
+            LevelLadders x = new LevelLadders();
+            x.put(0, 0, 1);
+            x.put(1, 0, 5);
+            int want = 1;
+            for (int row = 0; row < rows; row++) {
+                x.plan(row % 3 == 2 ? 2 : 1, row % 3 == 2 ? 1 : row + 2);
+                want = Due.mod(row % 3 == 2 ? want + 5 : want * (row + 2));
+            }
+            x.image();
+            for (int others = 0; others <= 8; others += 4) {
+                x.plan(-1, 0);
+                for (int row = 0; row < others; row++) {
+                    x.plan(row % 3 == 2 ? 1 : 0, 0);
+                }
+                x.undo();
+                due.same("33: " + rows + " ROWS in place of " + others, x.count(3), rows);
+                due.same("33: BEHIND " + rows + " ROWS in place of " + others, x.behind(0, 0), want);
+            }
+        }
+    }
+
+    private static void promise32OfEachCoordinate() {
+        LevelLadders x = new LevelLadders();
+        for (int vector = 0; vector <= 3; vector++) {
+            x.become(vector, 5 - vector % 2, 0);
+            for (int i = 0; i < Due.sizeOf(5 - vector % 2); i++) {
+                x.put(vector, i, 20 * vector + i + 1);
+            }
+        }
+        x.image();
+        for (int vector = 0; vector <= 3; vector++) {
+            x.become(vector, 4 + vector % 2, 0);
+            for (int i = 0; i < Due.sizeOf(4 + vector % 2); i++) {
+                x.put(vector, i, 100 - i);
+            }
+        }
+        x.undo();
+        for (int vector = 0; vector <= 3; vector++) {
+            due.same("33: LEVEL of " + vector, x.level(vector), 5 - vector % 2);
+            for (int i = 0; i < Due.sizeOf(5 - vector % 2); i++) {
+                due.same("33: COORDINATE " + i + " of " + vector, x.coordinate(vector, i), 20 * vector + i + 1);
+            }
+        }
     }
 
     private static void fill(LevelLadders x) {

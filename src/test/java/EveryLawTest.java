@@ -41,16 +41,16 @@ public final class EveryLawTest {
         }
     }
 
-    /** All WERE of a LEVEL and all its ZEROS: at most 311 calls of one object. */
+    /** All WERE of a LEVEL and all its ZEROS: at most 512 calls of one object. */
     private static void byEveryDeterminant(LevelLadders x, Model y, int level) {
         for (int v = -1; v <= 101; v++) {
             int many = y.were(level, v, -1);
             due.same("12: how many of " + level + " by " + v, x.were(level, v, -1), many);
-            for (int i = 0; i < many; i++) {
+            for (int i = 0; i <= many + 1 && many > 0; i++) {
                 due.same("12: were(" + level + ", " + v + ", " + i + ")", x.were(level, v, i), y.were(level, v, i));
             }
         }
-        for (int i = -1; i <= y.zeros(level, -1); i++) {
+        for (int i = -1; i <= y.zeros(level, -1) + 2; i++) {
             due.same("10: zeros(" + level + ", " + i + ")", x.zeros(level, i), y.zeros(level, i));
         }
     }
